@@ -27,13 +27,22 @@ public final class DemandTest {
                 Checks.due("income", x.income(party, year), 0);
                 Checks.due("lack", x.lack(party, year), 0);
                 Checks.due("penalty", x.penalty(party, year), 0);
+            }
+        }
+        x.offer(0, 10, 100, 5, 1);
+        Checks.due("offers() of another new object", new CapacityRound().offers(), 0);
+        aNewObjectHasNoObligations();
+    }
+
+    private static void aNewObjectHasNoObligations() {
+        CapacityRound x = new CapacityRound();
+        for (int party = 0; party < 5; party++) {
+            for (int year = 0; year < 8; year++) {
                 for (int hour = 0; hour < 12; hour++) {
                     Checks.due("obligation", x.obligation(party, year, hour), 0);
                 }
             }
         }
-        x.offer(0, 10, 100, 5, 1);
-        Checks.due("offers() of another new object", new CapacityRound().offers(), 0);
     }
 
     private static void demandAtFirst() {
@@ -135,9 +144,13 @@ public final class DemandTest {
         int[][] demands = {{100, 200, 50}, {0, 1001, 997}, {333, 1000, 7}, {0, 1, 1000}, {17, 19, 3}};
         for (int[] d : demands) {
             CapacityRound x = new CapacityRound();
-            x.setDemand(d[0], d[1], d[2]);
             int sum = 0;
             for (int amount = 1; amount <= 1200; amount++) {
+                // nothing is promised behind 512 calls of one object
+                if (amount % 200 == 1) {
+                    x = new CapacityRound();
+                    x.setDemand(d[0], d[1], d[2]);
+                }
                 sum += x.value(amount);
                 Checks.due("worth(" + amount + ") with upper " + d[1], x.worth(amount), sum);
             }

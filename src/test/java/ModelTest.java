@@ -1,5 +1,3 @@
-import java.util.Arrays;
-
 /** Promises 1 to 22 in long runs of calls: every answer against the model's, 512 calls to an object. */
 public final class ModelTest {
     private static final int RUNS = 400;
@@ -40,10 +38,11 @@ public final class ModelTest {
     }
 
     private static void compare(String where, CapacityRound x, Model model, String name, int[] a) {
-        String what = where + name + Arrays.toString(a);
+        Step step = Step.of(name, a);
+        String what = where + step.text();
         String refusal = model.refusal(name, a);
         long[] got = new long[1];
-        Checks.dueThrow(what, refusal, () -> got[0] = ask(x, name, a));
+        Checks.dueThrow(what, refusal, () -> got[0] = step.on(x));
         if (refusal.equals(Checks.NOTHING)) {
             Checks.due(what, got[0], model.answer(name, a));
         }
@@ -106,57 +105,6 @@ public final class ModelTest {
                 return new int[] {between(0, 1000), between(0, 200)};
             default:
                 return new int[0];
-        }
-    }
-
-    private static long ask(CapacityRound x, String name, int[] a) {
-        switch (name) {
-            case "setDemand":
-                x.setDemand(a[0], a[1], a[2]);
-                return 0;
-            case "value":
-                return x.value(a[0]);
-            case "worth":
-                return x.worth(a[0]);
-            case "offer":
-                return x.offer(a[0], a[1], a[2], a[3], a[4]);
-            case "offers":
-                return x.offers();
-            case "supply":
-                return x.supply(a[0]);
-            case "clearing":
-                return x.clearing(a[0]);
-            case "clearingByClock":
-                return x.clearingByClock(a[0]);
-            case "wouldTake":
-                return x.wouldTake(a[0], a[1]) ? 1 : 0;
-            case "run":
-                return x.run(a[0]);
-            case "bought":
-                return x.bought(a[0]);
-            case "income":
-                return x.income(a[0], a[1]);
-            case "obligation":
-                return x.obligation(a[0], a[1], a[2]);
-            case "trade":
-                return x.trade(a[0], a[1], a[2], a[3], a[4], a[5]);
-            case "trades":
-                return x.trades();
-            case "stress":
-                return x.stress(a[0], a[1]) ? 1 : 0;
-            case "tell":
-                return x.tell(a[0], a[1], a[2], a[3]);
-            case "setPenalty":
-                x.setPenalty(a[0], a[1]);
-                return 0;
-            case "lack":
-                return x.lack(a[0], a[1]);
-            case "penalty":
-                return x.penalty(a[0], a[1]);
-            case "penalties":
-                return x.penalties();
-            default:
-                throw new IllegalArgumentException(name);
         }
     }
 }
